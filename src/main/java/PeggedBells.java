@@ -151,7 +151,14 @@ public final class PeggedBells {
             throw new IllegalArgumentException("the pad has a fault");
         }
         history.add(drum);
-        int heard = doParts();
+        int heard = 0;
+        int start = 0;
+        for (int index = 0; index <= pad.length; index++) {
+            if (index == pad.length || pad.at(index) == ';') {
+                heard += doPart(start, index);
+                start = index + 1;
+            }
+        }
         pad.clear();
         return heard;
     }
@@ -357,18 +364,6 @@ public final class PeggedBells {
     }
 
     // ---- doing what the pad tells
-
-    private int doParts() {
-        int heard = 0;
-        int start = 0;
-        for (int index = 0; index <= pad.length; index++) {
-            if (index == pad.length || pad.at(index) == ';') {
-                heard += doPart(start, index);
-                start = index + 1;
-            }
-        }
-        return heard;
-    }
 
     /** Does the part from start to ahead of end, and tells how many bells are heard in it. */
     private int doPart(int start, int end) {

@@ -5,7 +5,7 @@ import java.util.List;
 import java.util.regex.Matcher;
 import java.util.regex.Pattern;
 
-/** Those rules of LANGUAGE.md that the words of the program show. It runs where .ci/run does, in the project's folder. */
+/** Those rules of LANGUAGE.md that the words of the program show; it runs in the project's folder. */
 public final class LanguageTest {
     private static final Path PROGRAM = Path.of("src/main/java/PeggedBells.java");
     private static final String LIBRARY = "java\\.util\\.(ArrayList|Arrays|Iterator|List|NoSuchElementException)";

@@ -28,10 +28,13 @@ public final class ModelTest {
     private final List<Method> methods = new ArrayList<>();
     private final StringBuilder told = new StringBuilder();
     private final boolean strange;
+    /** Whether the pad is filled, and seldom read or wiped. */
+    private final boolean writing;
 
     private ModelTest(int run) {
         random = new Random(run);
         strange = run % 4 == 0;
+        writing = run % 5 == 0;
         for (Method method : PeggedBells.class.getDeclaredMethods()) {
             if (java.lang.reflect.Modifier.isPublic(method.getModifiers())) {
                 methods.add(method);
@@ -87,6 +90,9 @@ public final class ModelTest {
         if (strange && random.nextInt(4) == 0) {
             return random.nextLong() >> random.nextInt(64);
         }
+        if (writing && random.nextBoolean()) {
+            return 31 + random.nextInt(98);
+        }
         long characters = 0;
         String piece = PIECES[random.nextInt(PIECES.length)];
         for (char c : piece.substring(0, Math.min(8, piece.length())).toCharArray()) {
@@ -127,9 +133,13 @@ public final class ModelTest {
     /** Most texts that are drawn have a fault, so a pad that has none is read at once, mostly. */
     private void run() throws ReflectiveOperationException {
         Method read = PeggedBells.class.getMethod("read");
+        Method put = PeggedBells.class.getMethod("put", long.class);
         for (int calls = 0; calls < CALLS && Check.wrong() < WRONG_AT_MOST; calls++) {
-            boolean whole = model.fault() == PeggedBells.NONE;
+            boolean whole = !writing && model.fault() == PeggedBells.NONE;
             Method method = whole && random.nextInt(3) == 0 ? read : drawn();
+            if (writing && random.nextInt(3) == 0) {
+                method = put;
+            }
             call(method, arguments(method));
         }
     }

@@ -511,6 +511,32 @@ public final class PromisesTest {
         isNoChange("17 to 21", y, () -> y.column() + y.time() + y.heardOf(0) + y.heard(true) + y.missed());
     }
 
+    /** What all calls that an object is good for can add up to. */
+    private static void most17to21() {
+        PeggedBells x = new PeggedBells();
+        for (int column = 0; column < 32; column++) {
+            x.setColumn(column, 1023);
+        }
+        for (int bell = 0; bell < 10; bell++) {
+            x.setWeight(bell, 1);
+        }
+        for (int bar = 0; bar < 4; bar++) {
+            x.setTempo(bar, 9);
+        }
+        x.setBound(5);
+        for (int calls = 0; calls < 400; calls++) {
+            Check.due("10: a long crank", 1000, x.crank(200));
+        }
+        Check.due("17: column", 0, x.column());
+        Check.due("18: time", 720000, x.time());
+        Check.due("19: bell 4", 80000, x.heardOf(4));
+        Check.due("19: bell 5", 0, x.heardOf(5));
+        Check.due("20: as it was", 400000, x.heard(false));
+        Check.due("20: by bells", 400000, x.heard(true));
+        Check.due("21: missed", 400000, x.missed());
+        Check.due("36: undoable", 6, x.undoable());
+    }
+
     private static void whyMissed22() {
         PeggedBells x = new PeggedBells();
         x.setColumn(0, 0b1000000111);
@@ -605,6 +631,8 @@ public final class PromisesTest {
         Check.due("27: only what is heard counts", 9, x.busiest());
         x.setBound(5);
         Check.due("27: none is heard", -1, x.busiest());
+        x.setWeight(0, 5);
+        Check.due("27: bell 0", 0, x.busiest());
         PeggedBells y = used();
         isNoChange("27", y, y::busiest);
     }
@@ -683,6 +711,10 @@ public final class PromisesTest {
         Check.due("30: together", 15, x.heaviestColumn());
         x.setBound(5);
         Check.due("30: none is heard", -1, x.heaviestColumn());
+        x.setWeight(9, 1);
+        Check.due("30: the least weight", 15, x.heaviestColumn());
+        x.turnPeg(0, 9);
+        Check.due("30: column 0", 0, x.heaviestColumn());
         PeggedBells y = used();
         isNoChange("30", y, y::heaviestColumn);
     }
@@ -757,7 +789,7 @@ public final class PromisesTest {
     private static void fault34() {
         String[] whole = {
             ".", ".2", ".9", "0:0", "9:9", "10:0", "19:0", "20:0", "29:0", "30:0", "31:0", "1:0", "2:0", "3:0", "4:0",
-            "t01", "t39", ".;.", "5:0123456789", "5:55;t15;.9;.;31:9", "1:12;.2", "0:1;0:1"};
+            "t01", "t39", ".;.", "5:0123456789", "5:9876543210", "5:55;t15;.9;.;31:9", "1:12;.2", "0:1;0:1"};
         for (String text : whole) {
             Check.due("34: " + text, -1, faultOf(text));
         }
@@ -770,7 +802,7 @@ public final class PromisesTest {
         // The last character is the one that cannot stand there.
         String[] ends = {
             "/", ":", ";", "T", "x", "!", "~", "32", "33", "39", "40", "90", "00", "01", "09", "310", "100", "190",
-            "0;", "0.", "1t", "3/", "3;", "0::", "0:;", "0:/", "0:t", "0:0:", "0:0.", "0:0t", "0:0/", "t4", "t9", "t/",
+            "1/", "2/", "1;", "2t", "0;", "0.", "1t", "3/", "3;", "0::", "0:;", "0:/", "0:t", "0:0:", "0:0.", "0:0t", "0:0/", "t4", "t9", "t/",
             "t:", "tt", "t;", "t00", "t0/", "t0:", "t0;", "t010", "t01:", "t01.", "t01t", ".0", ".1", ".:", "..", ".t",
             ".20", ".2.", ".2t", ".2:", ".;;", "0:1;;", "0:1;x", "t01;;", ".2;T"};
         for (String text : ends) {
@@ -928,6 +960,7 @@ public final class PromisesTest {
         read12();
         whatThereIs13to16();
         soFar17to21();
+        most17to21();
         whyMissed22();
         inRound23();
         round24to26();
