@@ -7,6 +7,7 @@ final class Check {
     private static final int SECONDS = 300;
     private static int wrong = 0;
     private static int right = 0;
+    private static String about = "";
 
     private Check() {
     }
@@ -26,13 +27,18 @@ final class Check {
         watch.start();
     }
 
+    /** Names what the next answers are about. */
+    static void about(String name) {
+        about = name + " | ";
+    }
+
     static void due(String what, String want, String got) {
         if (want.equals(got)) {
             right++;
             return;
         }
         wrong++;
-        System.out.println(what + " answered " + got + ", due is " + want);
+        System.out.println(about + what + " answered " + got + ", due is " + want);
     }
 
     static void due(String what, long want, long got) {
@@ -56,6 +62,10 @@ final class Check {
 
     static int wrong() {
         return wrong;
+    }
+
+    static int asked() {
+        return right + wrong;
     }
 
     static void end(String test) {
