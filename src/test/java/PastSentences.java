@@ -186,7 +186,7 @@ final class PastSentences {
         Check.due("recorded by what is refused", 0, x.undoable());
     }
 
-    /** Changes that leave a roll as it is, which has two pegs in the column 5, is saved in the slot 0, and stands at 0. */
+    /** Changes after which a roll is as before, if it has two pegs in the column 5 and is saved in the slot 0. */
     private static Map<String, Consumer<PeggedBells>> withoutDifference() {
         Map<String, Consumer<PeggedBells>> changes = new LinkedHashMap<>();
         changes.put("setColumn", x -> x.setColumn(5, 3));

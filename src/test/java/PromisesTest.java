@@ -1,64 +1,14 @@
 /** For each promise of the document, by its number: ordinary calls, the edges, and what is refused. */
 public final class PromisesTest {
-    private static final Class<IndexOutOfBoundsException> INDEX = IndexOutOfBoundsException.class;
-    private static final Class<IllegalArgumentException> ARGUMENT = IllegalArgumentException.class;
-    private static final Class<IllegalStateException> STATE = IllegalStateException.class;
-    private static final int[] NO_COLUMNS = {Integer.MIN_VALUE, -1, 32, Integer.MAX_VALUE};
-    private static final int[] NO_BELLS = {Integer.MIN_VALUE, -1, 10, Integer.MAX_VALUE};
-    private static final int[] NO_BARS = {Integer.MIN_VALUE, -1, 4, Integer.MAX_VALUE};
-    private static final int[] NO_SLOTS = {Integer.MIN_VALUE, -1, 2, Integer.MAX_VALUE};
-
     private PromisesTest() {
     }
 
     // ---- what the tests are written with
 
-    private static int put(PeggedBells x, String text) {
-        int length = x.padLength();
-        for (int start = 0; start < text.length(); start += 8) {
-            length = x.put(number(text.substring(start, Math.min(text.length(), start + 8))));
-        }
-        return length;
-    }
-
-    private static long number(String text) {
-        long number = 0;
-        for (char c : text.toCharArray()) {
-            number = number << 8 | c;
-        }
-        return number;
-    }
-
-    private static int read(PeggedBells x, String text) {
-        put(x, text);
-        return x.read();
-    }
-
-    /**
-     * Some seventy answers in one text, to tell whether a call changed something. An object is good for 512 calls, so
-     * for six of these.
-     */
-    private static String all(PeggedBells x) {
-        StringBuilder told = new StringBuilder();
-        for (int column = 0; column < 32; column++) {
-            told.append(x.pegsIn(column)).append(' ');
-        }
-        for (int bar = 0; bar < 4; bar++) {
-            told.append(x.tempoOf(bar)).append(' ');
-        }
-        for (int bell = 0; bell < 10; bell++) {
-            told.append(x.weightOf(bell)).append('/').append(x.heardOf(bell)).append('/');
-            told.append(x.whyMissed(bell)).append(' ');
-        }
-        told.append(x.column()).append(' ').append(x.time()).append(' ').append(x.heard(false)).append(' ');
-        told.append(x.missed()).append(' ').append(x.heardInRound(false)).append(' ').append(x.enoughBound());
-        return told.toString();
-    }
-
     /** A drum on which nothing is as it was at first. */
     private static PeggedBells used() {
         PeggedBells x = new PeggedBells();
-        read(x, "0:019;1:29;2:0;3:01234;4:56789;9:3;31:0;t15;t39");
+        Rolls.read(x, "0:019;1:29;2:0;3:01234;4:56789;9:3;31:0;t15;t39");
         x.setWeight(9, 25);
         x.setBound(170);
         x.crank(35);
@@ -67,30 +17,26 @@ public final class PromisesTest {
 
     private static void refusedAndNothingChanged(
             PeggedBells x, String call, Class<? extends RuntimeException> want, Check.Call does) {
-        String before = all(x) + x.undoable() + " " + x.padLength();
+        String before = Rolls.all(x) + x.undoable() + " " + x.padLength();
         Check.refused(call, want, does);
-        Check.due(call + ", what is after it", before, all(x) + x.undoable() + " " + x.padLength());
+        Check.due(call + ", what is after it", before, Rolls.all(x) + x.undoable() + " " + x.padLength());
     }
 
     /** A change records the state before it, and undo brings that back. */
     private static void isChange(String call, PeggedBells x, Check.Call does) {
-        String before = all(x);
+        String before = Rolls.all(x);
         int undoable = x.undoable();
         does.answer();
         Check.due(call + ", undoable", Math.min(6, undoable + 1), x.undoable());
         x.undo();
-        Check.due(call + ", all after undo", before, all(x));
+        Check.due(call + ", all after undo", before, Rolls.all(x));
     }
 
     /** What asks changes nothing and records nothing. */
     private static void isNoChange(String call, PeggedBells x, Check.Call does) {
-        String before = all(x) + x.undoable();
+        String before = Rolls.all(x) + x.undoable();
         does.answer();
-        Check.due(call + ", what is after it", before, all(x) + x.undoable());
-    }
-
-    private static int one(boolean is) {
-        return is ? 1 : 0;
+        Check.due(call + ", what is after it", before, Rolls.all(x) + x.undoable());
     }
 
     // ---- changes
@@ -116,8 +62,8 @@ public final class PromisesTest {
         Check.due("1: missed", 0, x.missed());
         Check.due("1: padLength", 0, x.padLength());
         Check.due("1: undoable", 0, x.undoable());
-        Check.refused("1: restore(0)", STATE, () -> x.restore(0));
-        Check.refused("1: restore(1)", STATE, () -> x.restore(1));
+        Check.refused("1: restore(0)", Rolls.STATE, () -> x.restore(0));
+        Check.refused("1: restore(1)", Rolls.STATE, () -> x.restore(1));
         Check.due("1: bound", 120, x.setBound(1));
         Check.due("1: NONE", -1, PeggedBells.NONE);
         PeggedBells y = new PeggedBells();
@@ -135,16 +81,16 @@ public final class PromisesTest {
         Check.due("2: taken out", false, x.turnPeg(0, 0));
         Check.due("2: pegs of 0 then", 512, x.pegsIn(0));
         Check.due("2: set again", true, x.turnPeg(0, 0));
-        for (int none : NO_COLUMNS) {
-            Check.refused("2: no column", INDEX, () -> one(x.turnPeg(none, 0)));
+        for (int none : Rolls.NO_COLUMNS) {
+            Check.refused("2: no column", Rolls.INDEX, () -> Rolls.one(x.turnPeg(none, 0)));
         }
-        for (int none : NO_BELLS) {
-            Check.refused("2: no bell", INDEX, () -> one(x.turnPeg(0, none)));
+        for (int none : Rolls.NO_BELLS) {
+            Check.refused("2: no bell", Rolls.INDEX, () -> Rolls.one(x.turnPeg(0, none)));
         }
-        refusedAndNothingChanged(used(), "2", INDEX, () -> one(x.turnPeg(32, 10)));
+        refusedAndNothingChanged(x, "2: turnPeg(32, 10)", Rolls.INDEX, () -> Rolls.one(x.turnPeg(32, 10)));
         PeggedBells y = used();
-        refusedAndNothingChanged(y, "2: turnPeg(0, 10)", INDEX, () -> one(y.turnPeg(0, 10)));
-        isChange("2: turnPeg(0, 0)", y, () -> one(y.turnPeg(0, 0)));
+        refusedAndNothingChanged(y, "2: turnPeg(0, 10)", Rolls.INDEX, () -> Rolls.one(y.turnPeg(0, 10)));
+        isChange("2: turnPeg(0, 0)", y, () -> Rolls.one(y.turnPeg(0, 0)));
     }
 
     private static void setColumn3() {
@@ -156,15 +102,15 @@ public final class PromisesTest {
         Check.due("3: none", 4, x.setColumn(31, 0));
         Check.due("3: some for others", 4, x.setColumn(0, 0b1111) + x.setColumn(0, 0b1111));
         Check.due("3: other pegs", 8, x.setColumn(0, 0b11110000));
-        for (int none : NO_COLUMNS) {
-            Check.refused("3: no column", INDEX, () -> x.setColumn(none, 0));
-            Check.refused("3: no column, no set", INDEX, () -> x.setColumn(none, 1024));
+        for (int none : Rolls.NO_COLUMNS) {
+            Check.refused("3: no column", Rolls.INDEX, () -> x.setColumn(none, 0));
+            Check.refused("3: no column, no set", Rolls.INDEX, () -> x.setColumn(none, 1024));
         }
         for (int none : new int[] {Integer.MIN_VALUE, -1, 1024, Integer.MAX_VALUE}) {
-            Check.refused("3: no set", ARGUMENT, () -> x.setColumn(0, none));
+            Check.refused("3: no set", Rolls.ARGUMENT, () -> x.setColumn(0, none));
         }
         PeggedBells y = used();
-        refusedAndNothingChanged(y, "3: setColumn(0, 1024)", ARGUMENT, () -> y.setColumn(0, 1024));
+        refusedAndNothingChanged(y, "3: setColumn(0, 1024)", Rolls.ARGUMENT, () -> y.setColumn(0, 1024));
         isChange("3: setColumn(0, 5)", y, () -> y.setColumn(0, 5));
         isChange("3: the same", y, () -> y.setColumn(0, 515));
     }
@@ -177,15 +123,15 @@ public final class PromisesTest {
         Check.due("4: there", 1, x.tempoOf(0));
         Check.due("4: another bar", 4, x.tempoOf(1));
         Check.due("4: the last one", 7, x.tempoOf(3));
-        for (int none : NO_BARS) {
-            Check.refused("4: no bar", INDEX, () -> x.setTempo(none, 4));
-            Check.refused("4: no bar, no tempo", INDEX, () -> x.setTempo(none, 0));
+        for (int none : Rolls.NO_BARS) {
+            Check.refused("4: no bar", Rolls.INDEX, () -> x.setTempo(none, 4));
+            Check.refused("4: no bar, no tempo", Rolls.INDEX, () -> x.setTempo(none, 0));
         }
         for (int none : new int[] {Integer.MIN_VALUE, -1, 0, 10, Integer.MAX_VALUE}) {
-            Check.refused("4: no tempo", ARGUMENT, () -> x.setTempo(3, none));
+            Check.refused("4: no tempo", Rolls.ARGUMENT, () -> x.setTempo(3, none));
         }
         PeggedBells y = used();
-        refusedAndNothingChanged(y, "4: setTempo(0, 10)", ARGUMENT, () -> y.setTempo(0, 10));
+        refusedAndNothingChanged(y, "4: setTempo(0, 10)", Rolls.ARGUMENT, () -> y.setTempo(0, 10));
         isChange("4: setTempo(0, 5)", y, () -> y.setTempo(0, 5));
         x.crank(1);
         x.setTempo(0, 6);
@@ -199,15 +145,15 @@ public final class PromisesTest {
         Check.due("5: the last bell", 6, x.setWeight(9, 33));
         Check.due("5: there", 33, x.weightOf(9));
         Check.due("5: another bell", 12, x.weightOf(8));
-        for (int none : NO_BELLS) {
-            Check.refused("5: no bell", INDEX, () -> x.setWeight(none, 4));
-            Check.refused("5: no bell, no weight", INDEX, () -> x.setWeight(none, 0));
+        for (int none : Rolls.NO_BELLS) {
+            Check.refused("5: no bell", Rolls.INDEX, () -> x.setWeight(none, 4));
+            Check.refused("5: no bell, no weight", Rolls.INDEX, () -> x.setWeight(none, 0));
         }
         for (int none : new int[] {Integer.MIN_VALUE, -1, 0, 61, Integer.MAX_VALUE}) {
-            Check.refused("5: no weight", ARGUMENT, () -> x.setWeight(9, none));
+            Check.refused("5: no weight", Rolls.ARGUMENT, () -> x.setWeight(9, none));
         }
         PeggedBells y = used();
-        refusedAndNothingChanged(y, "5: setWeight(0, 61)", ARGUMENT, () -> y.setWeight(0, 61));
+        refusedAndNothingChanged(y, "5: setWeight(0, 61)", Rolls.ARGUMENT, () -> y.setWeight(0, 61));
         isChange("5: setWeight(0, 5)", y, () -> y.setWeight(0, 5));
     }
 
@@ -223,9 +169,9 @@ public final class PromisesTest {
         Check.due("6: as much as the bound", 0, x.whyMissed(0));
         Check.due("6: the other then", 2, x.whyMissed(1));
         for (int none : new int[] {Integer.MIN_VALUE, -1, 0, 301, Integer.MAX_VALUE}) {
-            Check.refused("6: no bound", ARGUMENT, () -> x.setBound(none));
+            Check.refused("6: no bound", Rolls.ARGUMENT, () -> x.setBound(none));
         }
-        refusedAndNothingChanged(x, "6: setBound(301)", ARGUMENT, () -> x.setBound(301));
+        refusedAndNothingChanged(x, "6: setBound(301)", Rolls.ARGUMENT, () -> x.setBound(301));
         Check.due("6: after that", 60, x.setBound(114));
         Check.due("6: both as much as the bound", 0, x.whyMissed(1));
         isChange("6: setBound(100)", x, () -> x.setBound(100));
@@ -272,10 +218,10 @@ public final class PromisesTest {
         Check.due("8: 0 to 16", 0b11, x.pegsIn(16));
         Check.due("8: 31 to 15", 0b111, x.pegsIn(15));
         for (int none : new int[] {Integer.MIN_VALUE, -1, 0, 32, Integer.MAX_VALUE}) {
-            Check.refused("8: no columns", ARGUMENT, () -> x.move(none));
+            Check.refused("8: no columns", Rolls.ARGUMENT, () -> x.move(none));
         }
         PeggedBells y = used();
-        refusedAndNothingChanged(y, "8: move(32)", ARGUMENT, () -> y.move(32));
+        refusedAndNothingChanged(y, "8: move(32)", Rolls.ARGUMENT, () -> y.move(32));
         isChange("8: move(5)", y, () -> y.move(5));
         int column = y.column();
         y.move(5);
@@ -314,10 +260,10 @@ public final class PromisesTest {
         Check.due("10: column after them", 8, x.column());
         Check.due("10: heard", 27, x.heard(false));
         for (int none : new int[] {Integer.MIN_VALUE, -1, 0, 201, Integer.MAX_VALUE}) {
-            Check.refused("10: no columns", ARGUMENT, () -> x.crank(none));
+            Check.refused("10: no columns", Rolls.ARGUMENT, () -> x.crank(none));
         }
         PeggedBells y = used();
-        refusedAndNothingChanged(y, "10: crank(201)", ARGUMENT, () -> y.crank(201));
+        refusedAndNothingChanged(y, "10: crank(201)", Rolls.ARGUMENT, () -> y.crank(201));
         isChange("10: crank(9)", y, () -> y.crank(9));
     }
 
@@ -386,50 +332,50 @@ public final class PromisesTest {
 
     private static void read12() {
         PeggedBells x = new PeggedBells();
-        Check.due("12: pegs and columns", 3, read(x, "0:09;1:0;2:9;.3"));
+        Check.due("12: pegs and columns", 3, Rolls.read(x, "0:09;1:0;2:9;.3"));
         Check.due("12: pad", 0, x.padLength());
         Check.due("12: fault", 0, x.fault());
         Check.due("12: column", 3, x.column());
         Check.due("12: pegs", 4, x.pegs());
         Check.due("12: missed", 1, x.missed());
-        Check.due("12: taken out, where one is", 0, read(x, "0:01;31:9;10:3;30:7;29:6"));
+        Check.due("12: taken out, where one is", 0, Rolls.read(x, "0:01;31:9;10:3;30:7;29:6"));
         Check.due("12: column 0", 0b1000000010, x.pegsIn(0));
         Check.due("12: column 31", 512, x.pegsIn(31));
         Check.due("12: column 10", 8, x.pegsIn(10));
         Check.due("12: column 30", 128, x.pegsIn(30));
         Check.due("12: column 29", 64, x.pegsIn(29));
-        Check.due("12: twice is as before", 0, read(x, "5:0;5:0;6:121"));
+        Check.due("12: twice is as before", 0, Rolls.read(x, "5:0;5:0;6:121"));
         Check.due("12: column 5", 0, x.pegsIn(5));
         Check.due("12: column 6", 0b100, x.pegsIn(6));
-        Check.due("12: tempos", 0, read(x, "t09;t31;t12;t13"));
+        Check.due("12: tempos", 0, Rolls.read(x, "t09;t31;t12;t13"));
         Check.due("12: bar 0", 9, x.tempoOf(0));
         Check.due("12: bar 1", 3, x.tempoOf(1));
         Check.due("12: bar 2", 4, x.tempoOf(2));
         Check.due("12: bar 3", 1, x.tempoOf(3));
         int time = x.time();
-        Check.due("12: in its order", 1 + 0 + 2, read(x, "3:5;t01;.;t07;3:5;4:5;.;.9"));
+        Check.due("12: in its order", 1 + 0 + 2, Rolls.read(x, "3:5;t01;.;t07;3:5;4:5;.;.9"));
         Check.due("12: time", time + 1 + 7 + 3 * 7 + 6 * 3, x.time());
         Check.due("12: column 3", 0, x.pegsIn(3));
         faultyRead12(x);
         PeggedBells y = used();
-        put(y, "0:0123456789;t11;.9;.");
+        Rolls.put(y, "0:0123456789;t11;.9;.");
         isChange("12: read()", y, y::read);
         Check.due("12: undo leaves the pad empty", 0, y.padLength());
         PeggedBells z = new PeggedBells();
         z.setColumn(0, 1);
-        read(z, ".9;1:1;t12;.2");
+        Rolls.read(z, ".9;1:1;t12;.2");
         Check.due("12: one change in all", 2, z.undoable());
         z.undo();
         Check.due("12: what one undo takes back", 0, z.time() + z.column() + z.tempoOf(1) - 4 + z.pegsIn(1));
     }
 
     private static void faultyRead12(PeggedBells x) {
-        Check.refused("12: an empty pad", ARGUMENT, x::read);
-        put(x, "0:1;t09;.9;");
+        Check.refused("12: an empty pad", Rolls.ARGUMENT, x::read);
+        Rolls.put(x, "0:1;t09;.9;");
         Check.due("12: a text that ends too early", 11, x.fault());
-        refusedAndNothingChanged(x, "12: read()", ARGUMENT, x::read);
-        put(x, ".0");
-        refusedAndNothingChanged(x, "12: read() again", ARGUMENT, x::read);
+        refusedAndNothingChanged(x, "12: read()", Rolls.ARGUMENT, x::read);
+        Rolls.put(x, ".0");
+        refusedAndNothingChanged(x, "12: read() again", Rolls.ARGUMENT, x::read);
         Check.due("12: the pad stays", 13, x.wipe());
     }
 
@@ -442,8 +388,8 @@ public final class PromisesTest {
         Check.due("13: column 0", 5, x.pegsIn(0));
         Check.due("13: column 1", 0, x.pegsIn(1));
         Check.due("13: column 31", 1023, x.pegsIn(31));
-        for (int none : NO_COLUMNS) {
-            Check.refused("13: no column", INDEX, () -> x.pegsIn(none));
+        for (int none : Rolls.NO_COLUMNS) {
+            Check.refused("13: no column", Rolls.INDEX, () -> x.pegsIn(none));
         }
         Check.due("14: pegs", 12, x.pegs());
         x.crank(200);
@@ -453,16 +399,16 @@ public final class PromisesTest {
         Check.due("15: bar 0", 1, x.tempoOf(0));
         Check.due("15: bar 1", 4, x.tempoOf(1));
         Check.due("15: bar 3", 9, x.tempoOf(3));
-        for (int none : NO_BARS) {
-            Check.refused("15: no bar", INDEX, () -> x.tempoOf(none));
+        for (int none : Rolls.NO_BARS) {
+            Check.refused("15: no bar", Rolls.INDEX, () -> x.tempoOf(none));
         }
         x.setWeight(0, 1);
         x.setWeight(9, 60);
         Check.due("16: bell 0", 1, x.weightOf(0));
         Check.due("16: bell 1", 54, x.weightOf(1));
         Check.due("16: bell 9", 60, x.weightOf(9));
-        for (int none : NO_BELLS) {
-            Check.refused("16: no bell", INDEX, () -> x.weightOf(none));
+        for (int none : Rolls.NO_BELLS) {
+            Check.refused("16: no bell", Rolls.INDEX, () -> x.weightOf(none));
         }
         for (int column = 0; column < 32; column++) {
             x.setColumn(column, 1023);
@@ -496,8 +442,8 @@ public final class PromisesTest {
         Check.due("19: bell 0", 2, x.heardOf(0));
         Check.due("19: bell 2", 0, x.heardOf(2));
         Check.due("19: bell 9", 2, x.heardOf(9));
-        for (int none : NO_BELLS) {
-            Check.refused("19: no bell", INDEX, () -> x.heardOf(none));
+        for (int none : Rolls.NO_BELLS) {
+            Check.refused("19: no bell", Rolls.INDEX, () -> x.heardOf(none));
         }
         Check.due("20: as it was", 6, x.heard(false));
         Check.due("20: by bells", 6, x.heard(true));
@@ -559,8 +505,8 @@ public final class PromisesTest {
         x.setBound(47);
         Check.due("22: one that is too heavy", 2, x.whyMissed(2));
         Check.due("22: weighs nothing", 0, x.whyMissed(3));
-        for (int none : NO_BELLS) {
-            Check.refused("22: no bell", INDEX, () -> x.whyMissed(none));
+        for (int none : Rolls.NO_BELLS) {
+            Check.refused("22: no bell", Rolls.INDEX, () -> x.whyMissed(none));
         }
         isNoChange("22: whyMissed(3)", x, () -> x.whyMissed(3));
     }
@@ -581,8 +527,8 @@ public final class PromisesTest {
         Check.due("23: the hammers are back at its beginning", 0b1000000011, x.inRound(0));
         x.crank(5);
         Check.due("23: wherever the drum stands", 0, x.inRound(1));
-        for (int none : NO_COLUMNS) {
-            Check.refused("23: no column", INDEX, () -> x.inRound(none));
+        for (int none : Rolls.NO_COLUMNS) {
+            Check.refused("23: no column", Rolls.INDEX, () -> x.inRound(none));
         }
         Check.due("23: what is at hand", 5, x.column());
         Check.due("23: what was heard", x.heard(true), x.heard(false));
@@ -724,11 +670,11 @@ public final class PromisesTest {
     private static void put31() {
         PeggedBells x = new PeggedBells();
         Check.due("31: one", 1, x.put('!'));
-        Check.due("31: eight", 9, x.put(number("~~~~~~~~")));
-        Check.due("31: two", 11, x.put(number("ab")));
+        Check.due("31: eight", 9, x.put(Rolls.number("~~~~~~~~")));
+        Check.due("31: two", 11, x.put(Rolls.number("ab")));
         Check.due("31: wiped", 11, x.wipe());
-        Check.due("31: in their order", 8, x.put(number("12:34;.5")));
-        Check.due("31: behind the others", 11, x.put(number(";.2")));
+        Check.due("31: in their order", 8, x.put(Rolls.number("12:34;.5")));
+        Check.due("31: behind the others", 11, x.put(Rolls.number(";.2")));
         Check.due("31: no fault", -1, x.fault());
         x.read();
         Check.due("31: what was put", 24, x.pegsIn(12));
@@ -738,14 +684,14 @@ public final class PromisesTest {
             0x2E20, 0x202E, 0x7F2E, 0x2E7F, 0x802E2E2E2E2E2E2EL, 0xFF2E2E2E2E2E2E2EL, 0x002E2E2E2E002E2EL, 1L << 32,
             0x012E2E2E2E2E2E2EL};
         for (long characters : wrong) {
-            Check.refused("31: put(" + characters + ")", ARGUMENT, () -> x.put(characters));
+            Check.refused("31: put(" + characters + ")", Rolls.ARGUMENT, () -> x.put(characters));
         }
         for (int code = 0; code < 256; code++) {
             long characters = code;
             if (code >= 33 && code <= 126) {
                 Check.due("31: a code", 1, x.put(characters) * x.wipe());
             } else {
-                Check.refused("31: no code", ARGUMENT, () -> x.put(characters));
+                Check.refused("31: no code", Rolls.ARGUMENT, () -> x.put(characters));
             }
         }
         Check.due("31: nothing is put", 0, x.padLength());
@@ -753,31 +699,31 @@ public final class PromisesTest {
 
     private static void fullPad31() {
         PeggedBells x = new PeggedBells();
-        put(x, ".;.;.;.;.;.;.;.;.;.;.;.;.;.;.;.;.;.;.;.;.;.;.;.;.;.;.;");
+        Rolls.put(x, ".;.;.;.;.;.;.;.;.;.;.;.;.;.;.;.;.;.;.;.;.;.;.;.;.;.;.;");
         Check.due("31: 54", 54, x.padLength());
-        Check.refused("31: 62", STATE, () -> x.put(number(".;.;.;.;")));
-        Check.refused("31: 61", STATE, () -> x.put(number(".;.;.;.")));
-        Check.refused("31: too long, and no characters", ARGUMENT, () -> x.put(number(" ;.;.;.")));
-        Check.due("31: 60", 60, x.put(number(".;.;.2")));
-        Check.refused("31: full", STATE, () -> x.put('.'));
-        Check.refused("31: full, and no character", ARGUMENT, () -> x.put(0));
+        Check.refused("31: 62", Rolls.STATE, () -> x.put(Rolls.number(".;.;.;.;")));
+        Check.refused("31: 61", Rolls.STATE, () -> x.put(Rolls.number(".;.;.;.")));
+        Check.refused("31: too long, and no characters", Rolls.ARGUMENT, () -> x.put(Rolls.number(" ;.;.;.")));
+        Check.due("31: 60", 60, x.put(Rolls.number(".;.;.2")));
+        Check.refused("31: full", Rolls.STATE, () -> x.put('.'));
+        Check.refused("31: full, and no character", Rolls.ARGUMENT, () -> x.put(0));
         Check.due("31: it stays", 60, x.padLength());
         Check.due("31: nothing recorded", 0, x.undoable());
         Check.due("31: no fault", -1, x.fault());
         x.read();
         Check.due("31: the last character counts", 31, x.column());
-        Check.due("31: room again", 8, x.put(number(".;.;.;.;")));
+        Check.due("31: room again", 8, x.put(Rolls.number(".;.;.;.;")));
     }
 
     private static void wipe32padLength33() {
         PeggedBells x = used();
         Check.due("32: an empty pad", 0, x.wipe());
-        put(x, "0:1;.");
+        Rolls.put(x, "0:1;.");
         Check.due("33: padLength", 5, x.padLength());
         Check.due("32: what it had", 5, x.wipe());
         Check.due("33: then", 0, x.padLength());
         Check.due("32: the fault then", 0, x.fault());
-        put(x, ".2");
+        Rolls.put(x, ".2");
         Check.due("33: only what is new", 2, x.padLength());
         isNoChange("33", x, x::padLength);
         isNoChange("34", x, x::fault);
@@ -791,30 +737,24 @@ public final class PromisesTest {
             ".", ".2", ".9", "0:0", "9:9", "10:0", "19:0", "20:0", "29:0", "30:0", "31:0", "1:0", "2:0", "3:0", "4:0",
             "t01", "t39", ".;.", "5:0123456789", "5:9876543210", "5:55;t15;.9;.;31:9", "1:12;.2", "0:1;0:1"};
         for (String text : whole) {
-            Check.due("34: " + text, -1, faultOf(text));
+            Check.due("34: " + text, -1, Rolls.faultOf(text));
         }
         String[] faulty = {
             "0", "1", "3", "31", "4", "t", "t0", "t3", "0:", "31:", ".;", ".9;", "t01;", "0:1;", "0:1;t", ".;2"};
         for (String text : faulty) {
-            Check.due("34: " + text + " ends too early", text.length(), faultOf(text));
+            Check.due("34: " + text + " ends too early", text.length(), Rolls.faultOf(text));
         }
         Check.due("34: empty", 0, new PeggedBells().fault());
         // The last character is the one that cannot stand there.
         String[] ends = {
             "/", ":", ";", "T", "x", "!", "~", "32", "33", "39", "40", "90", "00", "01", "09", "310", "100", "190",
             "1/", "2/", "1;", "2t", "0;", "0.", "1t", "3/", "3;", "0::", "0:;", "0:/", "0:t", "0:0:", "0:0.", "0:0t",
-            "0:0/", "t4", "t9", "t/", "t:", "tt", "t;", "t00", "t0/", "t0:", "t0;", "t010", "t01:", "t01.", "t01t", ".0",
-            ".1", ".:", "..", ".t", ".20", ".2.", ".2t", ".2:", ".;;", "0:1;;", "0:1;x", "t01;;", ".2;T"};
+            "0:0/", "t4", "t9", "t/", "t:", "tt", "t;", "t00", "t0/", "t0:", "t0;", "t010", "t01:", "t01.", "t01t",
+            ".0", ".1", ".:", "..", ".t", ".20", ".2.", ".2t", ".2:", ".;;", "0:1;;", "0:1;x", "t01;;", ".2;T"};
         for (String text : ends) {
-            Check.due("34: " + text, text.length() - 1, faultOf(text));
-            Check.due("34: " + text + ", more behind it", text.length() - 1, faultOf(text + ";.x"));
+            Check.due("34: " + text, text.length() - 1, Rolls.faultOf(text));
+            Check.due("34: " + text + ", more behind it", text.length() - 1, Rolls.faultOf(text + ";.x"));
         }
-    }
-
-    private static int faultOf(String text) {
-        PeggedBells x = new PeggedBells();
-        put(x, text);
-        return x.fault();
     }
 
     // ---- undo, saving
@@ -822,7 +762,7 @@ public final class PromisesTest {
     private static void undo35undoable36() {
         PeggedBells x = new PeggedBells();
         Check.due("36: at first", 0, x.undoable());
-        Check.refused("35: none", STATE, x::undo);
+        Check.refused("35: none", Rolls.STATE, x::undo);
         for (int bell = 0; bell < 9; bell++) {
             x.turnPeg(0, bell);
             Check.due("36: after a change", Math.min(6, bell + 1), x.undoable());
@@ -832,8 +772,8 @@ public final class PromisesTest {
             Check.due("36: undoable", left, x.undoable());
             Check.due("35: pegs", 3 + left, x.pegs());
         }
-        Check.refused("35: none is left", STATE, x::undo);
-        refusedAndNothingChanged(x, "35: undo()", STATE, x::undo);
+        Check.refused("35: none is left", Rolls.STATE, x::undo);
+        refusedAndNothingChanged(x, "35: undo()", Rolls.STATE, x::undo);
         x.turnPeg(0, 9);
         Check.due("36: again", 1, x.undoable());
         Check.due("35: again", 0, x.undo());
@@ -851,7 +791,7 @@ public final class PromisesTest {
 
     private static void undoOfAll35() {
         PeggedBells x = used();
-        String before = all(x);
+        String before = Rolls.all(x);
         int bound = 170;
         x.setBound(33);
         x.setWeight(3, 60);
@@ -859,12 +799,12 @@ public final class PromisesTest {
         x.move(7);
         x.crank(123);
         x.turnBack();
-        put(x, ".9");
+        Rolls.put(x, ".9");
         x.save(1);
         for (int left = 5; left >= 0; left--) {
             Check.due("35: undo", left, x.undo());
         }
-        Check.due("35: all is as before", before, all(x));
+        Check.due("35: all is as before", before, Rolls.all(x));
         Check.due("35: the pad stays", 2, x.padLength());
         Check.due("35: the slot stays", x.pegs(), x.restore(1));
         Check.due("35: the slot's time", true, x.time() > 4 * 123);
@@ -886,24 +826,24 @@ public final class PromisesTest {
 
     private static void save37restore38() {
         PeggedBells x = used();
-        String saved = all(x);
+        String saved = Rolls.all(x);
         int pegs = x.pegs();
         Check.due("37: pegs", pegs, x.save(0));
-        Check.refused("38: nothing in the other slot", STATE, () -> x.restore(1));
+        Check.refused("38: nothing in the other slot", Rolls.STATE, () -> x.restore(1));
         x.setBound(33);
         x.setWeight(3, 60);
         x.setColumn(20, 1023);
         x.crank(123);
-        String other = all(x);
+        String other = Rolls.all(x);
         Check.due("37: the other slot", pegs + 10, x.save(1));
-        put(x, "t");
+        Rolls.put(x, "t");
         Check.due("38: pegs", pegs, x.restore(0));
-        Check.due("38: all is as it was saved", saved, all(x));
+        Check.due("38: all is as it was saved", saved, Rolls.all(x));
         Check.due("38: the pad stays", 1, x.padLength());
         x.turnPeg(0, 7);
         x.crank(3);
         x.restore(0);
-        Check.due("38: the slot keeps it", saved, all(x));
+        Check.due("38: the slot keeps it", saved, Rolls.all(x));
     }
 
     private static void slots37and38() {
@@ -922,11 +862,11 @@ public final class PromisesTest {
         x.undo();
         Check.due("38: undone", 1, x.undo());
         Check.due("38: pegs then", 1, x.pegs());
-        for (int none : NO_SLOTS) {
-            Check.refused("37: no slot", INDEX, () -> x.save(none));
-            Check.refused("38: no slot", INDEX, () -> x.restore(none));
+        for (int none : Rolls.NO_SLOTS) {
+            Check.refused("37: no slot", Rolls.INDEX, () -> x.save(none));
+            Check.refused("38: no slot", Rolls.INDEX, () -> x.restore(none));
         }
-        refusedAndNothingChanged(x, "38: restore(0)", STATE, () -> x.restore(0));
+        refusedAndNothingChanged(x, "38: restore(0)", Rolls.STATE, () -> x.restore(0));
         isNoChange("37: save(0)", x, () -> x.save(0));
         PeggedBells y = used();
         y.save(0);

@@ -266,8 +266,8 @@ final class QuestionSentences {
             x.crank(17);
             Check.due("wherever the drum stands", 320, x.heardInRound(false));
         });
-        s.test("- `byColumns`: false: told as it would come; true: told by what would be heard in each column (the same)",
-                () -> {
+        s.test("- `byColumns`: false: told as it would come; true: told by what would be heard in each column (the "
+                + "same)", () -> {
             PeggedBells x = new PeggedBells();
             Check.due("none", 0, x.heardInRound(true));
             for (int column = 31; column >= 0; column--) {
@@ -472,16 +472,16 @@ final class QuestionSentences {
             x.turnPeg(0, 9);
             Check.due("300", 300, x.enoughBound());
             x.setColumn(1, 1023);
-            Check.due("more in another column, if some hammers are not back", 30 + 24 + 18 + 12 + 1, 385 - x.enoughBound());
-            x.setColumn(2, 1023);
+            Check.due("all bells in a column, but some hammers are not back", 300, x.enoughBound());
             x.setColumn(31, 1023);
-            Check.due("all bells in one column", -1, x.enoughBound());
+            Check.due("all bells in a column, and all hammers are back", -1, x.enoughBound());
         });
     }
 
     private static void heaviestColumn30(Sentences s) {
         s.in("Promise 30");
-        s.test("Returns the column of a round in which the weights of the bells that would be heard are the most;", () -> {
+        s.test("Returns the column of a round in which the weights of the bells that would be heard are the most;",
+                () -> {
             PeggedBells x = new PeggedBells();
             x.turnPeg(31, 9);
             Check.due("the last column", 31, x.heaviestColumn());

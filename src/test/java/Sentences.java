@@ -49,12 +49,12 @@ final class Sentences {
                 reading = new Section();
                 sections.put(title, reading);
             } else {
-                reading.add(section(line));
+                reading.add(withoutSignature(line));
             }
         }
     }
 
-    private static String section(String line) {
+    private static String withoutSignature(String line) {
         return line.replaceAll("^`[^`]*\\)[^`]*`: ", "");
     }
 

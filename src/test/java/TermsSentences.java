@@ -33,7 +33,8 @@ final class TermsSentences {
     }
 
     private static void calls(Sentences s) {
-        s.test("An object is used for at most 512 calls after it has been made; what later calls answer is free.", () -> {
+        s.test("An object is used for at most 512 calls after it has been made; what later calls answer is free.",
+                () -> {
             PeggedBells x = new PeggedBells();
             for (int calls = 1; calls <= 512; calls++) {
                 Check.due("call " + calls, calls % 2 == 1, x.turnPeg(31, 9));
@@ -460,8 +461,8 @@ final class TermsSentences {
     }
 
     private static void hammers(Sentences s) {
-        s.test("1 its hammer is not back: since it was heard the last time, fewer columns were struck, this one counted, "
-                + "than its weight divided by 20, and 1, together;", () -> {
+        s.test("1 its hammer is not back: since it was heard the last time, fewer columns were struck, this one "
+                + "counted, than its weight divided by 20, and 1, together;", () -> {
             for (int weight = 1; weight <= 60; weight++) {
                 for (int columns = 1; columns <= 5; columns++) {
                     hammer(weight, columns);
@@ -530,8 +531,8 @@ final class TermsSentences {
     }
 
     private static void bound(Sentences s) {
-        s.test("2 with it the weights of the bells that are heard in this column would be more than the bound (1 to 300; "
-                + "120 at first), together.", () -> {
+        s.test("2 with it the weights of the bells that are heard in this column would be more than the bound (1 to "
+                + "300; 120 at first), together.", () -> {
             PeggedBells x = Rolls.with(0b1000000011);
             Check.due("60, 54 and 6 with the first bound", 0b1000000011, x.inRound(0));
             x.setWeight(9, 7);

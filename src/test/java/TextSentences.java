@@ -89,6 +89,8 @@ final class TextSentences {
             for (int column = 32; column < 100; column++) {
                 endsWrong("" + column);
             }
+            // The neighbours of the digits, where one can stand.
+            endsWrong("/", ":", "0/", "1/", "2/", "3/", "9/", "10/", "31/", "0;", "1;", "2;", "3;", "10;", "31;");
         });
         s.test("bells are digits 0 to 9),", () -> {
             for (int bell = 0; bell < 10; bell++) {
@@ -125,8 +127,8 @@ final class TextSentences {
     }
 
     private static void fault(Sentences s) {
-        s.test("The fault is the index of the first character that cannot stand at its place when the text is read from "
-                + "left to right", () -> {
+        s.test("The fault is the index of the first character that cannot stand at its place when the text is read "
+                + "from left to right", () -> {
             Check.due("the first character", 0, Rolls.faultOf("x"));
             Check.due("the first of two", 0, Rolls.faultOf("xx"));
             Check.due("in the first part", 1, Rolls.faultOf(".x;.x"));
@@ -148,9 +150,11 @@ final class TextSentences {
             Check.due("three digits", 2, Rolls.faultOf("100:0"));
             endsWrong("t4", "t9", "t010", ".20", ".99");
         });
-        s.test("if there is none and the text ends too early (also if it is empty), it is the length of the text.", () -> {
+        s.test("if there is none and the text ends too early (also if it is empty), it is the length of the text.",
+                () -> {
             Check.due("an empty one", 0, new PeggedBells().fault());
-            endsEarly("0", "3", "9", "10", "31", "0:", "31:", "t", "t3", ".;", "0:1;", "t01;", ".2;", ".;3", ".;t", ".;t1");
+            endsEarly("0", "3", "9", "10", "31", "0:", "31:", "t", "t3", ".;", "0:1;", "t01;", ".2;");
+            endsEarly(".;3", ".;t", ".;t1", ".;31:");
             Check.due("a full pad", 60, Rolls.faultOf(".;".repeat(29) + ".;"));
             Check.due("another full pad", 60, Rolls.faultOf(".;".repeat(28) + ".9;t"));
             PeggedBells x = new PeggedBells();
@@ -183,7 +187,8 @@ final class TextSentences {
             }
         }));
         s.test("Ahead of the calls `inRound`, `heardInRound`, `ticksOfRound`, `missedInRound`, `busiest`, "
-                + "`longestSilence`, `enoughBound`, `heaviestColumn` the interface says: ---- a round; nothing changes.",
+                + "`longestSilence`, `enoughBound`, `heaviestColumn` the interface says: ---- a round; nothing "
+                + "changes.",
                 () -> Rolls.changesNothing("a round", x -> {
             x.inRound(31);
             x.heardInRound(false);
@@ -251,8 +256,8 @@ final class TextSentences {
             y.read();
             Check.due("to a pad that was wiped", 1, y.pegsIn(1));
         });
-        s.test("They are given as a number: its lowest 8 bits are the last character, the next 8 bits the one before, and "
-                + "so on;", () -> {
+        s.test("They are given as a number: its lowest 8 bits are the last character, the next 8 bits the one before, "
+                + "and so on;", () -> {
             PeggedBells x = new PeggedBells();
             x.put(0x31323A3430392E32L);
             Check.due("12:409.2 has its fault where the 7th character stands", 6, x.fault());
