@@ -365,7 +365,6 @@ public final class PeggedBells {
 
     // ---- doing what the pad tells
 
-    /** Does the part from start to ahead of end, and tells how many bells are heard in it. */
     private int doPart(int start, int end) {
         char first = pad.at(start);
         if (first == '.') {
@@ -579,7 +578,6 @@ public final class PeggedBells {
         final int[] heardIn = new int[COLUMNS];
         private final Hammers hammers = new Hammers();
 
-        /** Tells how many strikes would be heard. */
         int play(Drum drum, int bound) {
             hammers.allBack();
             int count = 0;
@@ -622,7 +620,7 @@ public final class PeggedBells {
             }
         }
 
-        /** Records a state, and hands out the copy that it keeps. */
+        /** Hands out the copy that it keeps, as a change asks it for what was before. */
         Drum add(Drum drum) {
             if (count == HISTORY) {
                 dropOldest();
@@ -676,7 +674,7 @@ public final class PeggedBells {
         private final char[] characters = new char[MOST_LENGTH];
         int length = 0;
 
-        /** How many characters a number gives; 0 if it gives none, or something that is no character. */
+        /** 0 if something is no character, too: put refuses that number as it refuses one without characters. */
         static int charactersIn(long number) {
             for (int count = 0; count < MOST_PUT; count++) {
                 long rest = number >>> count * CODE_BITS;
@@ -773,7 +771,6 @@ public final class PeggedBells {
             return character >= first && character <= last;
         }
 
-        /** The index of the first colon from start on; the length if there is none. */
         int colonFrom(int start) {
             for (int index = start; index < length; index++) {
                 if (at(index) == ':') {
